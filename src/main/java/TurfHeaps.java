@@ -42,8 +42,8 @@ public final class TurfHeaps {
     private final Moor fresh = new Moor();
     private final Moor[] images = new Moor[IMAGES];
     private final Slot[] slots = new Slot[SLOTS];
-    private final Season now = new Season(moor);
-    private final Season varied = new Season(moor);
+    private final Season now = new Season();
+    private final Season varied = new Season();
     private final Round round = new Round();
     private final Every every = new Every();
     private final Seen seen = new Seen();
@@ -741,8 +741,8 @@ public final class TurfHeaps {
 
     private Row rowOfDay(int day) {
         if (!passed) {
-            now.asTold();
-            now.pass();
+            now.asTold(moor);
+            now.pass(moor);
             passed = true;
         }
         return now.at(day);
@@ -774,38 +774,38 @@ public final class TurfHeaps {
     }
 
     private int heapsWithMore(int day, int turfs) {
-        varied.asTold();
+        varied.asTold(moor);
         varied.moreDay = day;
         varied.moreTurfs = turfs;
-        varied.pass();
+        varied.pass(moor);
         return varied.at(moor.days).heaps;
     }
 
     private int heapsWithSet(int set) {
-        varied.asTold();
+        varied.asTold(moor);
         varied.set = set;
-        varied.pass();
+        varied.pass(moor);
         return varied.at(moor.days).heaps;
     }
 
     private int heapsWithWet(int wet) {
-        varied.asTold();
+        varied.asTold(moor);
         varied.wet = wet;
-        varied.pass();
+        varied.pass(moor);
         return varied.at(moor.days).heaps;
     }
 
     private Row passByLaw(int law) {
-        varied.asTold();
+        varied.asTold(moor);
         varied.law = law;
-        varied.pass();
+        varied.pass(moor);
         return varied.at(moor.days);
     }
 
     private Row passLate(int first, int second, int x, int y) {
-        varied.asTold();
+        varied.asTold(moor);
         varied.late = x << first | y << second;
-        varied.pass();
+        varied.pass(moor);
         return varied.at(moor.days);
     }
 
@@ -890,8 +890,8 @@ public final class TurfHeaps {
      * behind it, or, if n is NONE, all by the number of heaps that they leave.
      */
     private long weighHeaps(int day, int n) {
-        varied.asTold();
-        varied.begin();
+        varied.asTold(moor);
+        varied.begin(moor);
         long sum = 0;
         int goodTo = 0;
         for (int choice = 0; choice < 2 << day; choice++) {
@@ -911,7 +911,7 @@ public final class TurfHeaps {
     private void passChoice(int choice, int first, int last) {
         for (int d = first; d <= last; d++) {
             varied.wet = (choice >> (last - d) & 1) << d;
-            varied.next(d);
+            varied.next(moor, d);
         }
     }
 
@@ -990,10 +990,10 @@ public final class TurfHeaps {
     private Seen lookAt(int slot, int heap) {
         seen.clear();
         for (int turfs = 1; turfs <= MOST_LAYS; turfs++) {
-            varied.asTold();
+            varied.asTold(moor);
             varied.otherHeap = heap;
             varied.otherTurfs = turfs;
-            varied.pass();
+            varied.pass(moor);
             if (slots[slot].tellsOf(varied)) {
                 seen.keep(turfs, varied);
             }
@@ -1489,7 +1489,6 @@ public final class TurfHeaps {
 
     /** The rows of all days, as told or with one thing otherwise. */
     private static final class Season {
-        private final Moor moor;
         private final Row[] rows = new Row[MOST_DAYS + 1];
         private int law;
         private int set;
@@ -1500,14 +1499,13 @@ public final class TurfHeaps {
         private int otherHeap;
         private int otherTurfs;
 
-        private Season(Moor moor) {
-            this.moor = moor;
+        private Season() {
             for (int d = 0; d <= MOST_DAYS; d++) {
                 rows[d] = new Row();
             }
         }
 
-        private void asTold() {
+        private void asTold(Moor moor) {
             law = moor.law;
             set = ALL_CARTS;
             late = 0;
@@ -1522,24 +1520,24 @@ public final class TurfHeaps {
             return day >= 0 && day <= MOST_DAYS ? rows[day] : rows[0];
         }
 
-        private void pass() {
-            begin();
+        private void pass(Moor moor) {
+            begin(moor);
             for (int d = 0; d < moor.days; d++) {
-                next(d);
+                next(moor, d);
             }
         }
 
-        private void begin() {
+        private void begin(Moor moor) {
             Row first = rows[0];
             first.clear();
             for (int h = 0; h < moor.heapsTold; h++) {
                 first.lay(h == otherHeap ? otherTurfs : moor.told[h]);
             }
-            arrive(0);
+            arrive(moor, 0);
         }
 
         /** The row of the day behind this one. */
-        private void next(int day) {
+        private void next(Moor moor, int day) {
             if (day < 0 || day >= MOST_DAYS) {
                 return;
             }
@@ -1548,10 +1546,10 @@ public final class TurfHeaps {
             if ((wet >> day & 1) == 0) {
                 row.step(law);
             }
-            arrive(day + 1);
+            arrive(moor, day + 1);
         }
 
-        private void arrive(int day) {
+        private void arrive(Moor moor, int day) {
             Row row = at(day);
             for (int c = 0; c < moor.carts; c++) {
                 if ((set >> c & 1) == 1 && moor.cartDay[c] + (late >> c & 1) == day) {

@@ -138,6 +138,11 @@ public final class PromiseTest {
     fault(" ;", 1, 1);
     fault("7", 1, 0);
     fault("moors days 1 law 0 odds 0;", 1, 0);
+    fault("moorz days 1 law 0 odds 0;", 1, 0);
+    fault("moor{", 1, 4);
+    fault("moor`", 1, 4);
+    fault("moor days 1/", 1, 11);
+    fault("moor days 1:", 1, 11);
     fault("moor day 1 law 0 odds 0;", 1, 5);
     fault("moor days law", 1, 10);
     fault("moor days 0 law 0 odds 0;", 2, 10);
@@ -299,6 +304,27 @@ public final class PromiseTest {
     due(31, "later(0, 3, 2)", y.later(0, 3, 2), 1);
     y.rate(0, 2);
     due(32, "soon(0) of [2 1]", y.soon(0), 0);
+    y = of("moor days 1 law 3 odds 0;heap of 3;"); // [3] [2 1] [3]: a stair on the ring, not its first row
+    due(28, "tail(0)", y.tail(0), 0);
+    due(29, "length(0)", y.length(0), 2);
+    due(32, "soon(0) on a ring", y.soon(0), 1);
+    lastDays();
+  }
+
+  /** What is so on the last day alone. */
+  private static void lastDays() {
+    TurfHeaps x = of("moor days 1 law 0 odds 0;heap of 5;cart of 9 at 1;cart of 9 at 1;");
+    due(17, "most()", x.most(), 4);
+    due(18, "peak()", x.peak(), 1);
+    x = of("moor days 1 law 0 odds 0;heap of 3;");
+    due(23, "stairs()", x.stairs(), 1);
+    due(21, "rows()", x.rows(), 2);
+    x = of("moor days 16 law 1 odds 0;heap of 4;heap of 2;heap of 1;cart of 1 at 15;");
+    due(19, "same(14)", x.same(14), 0);
+    row(8, x, 15, 4, 2, 1, 1);
+    row(8, x, 16, 4, 3, 1);
+    due(20, "still()", x.still(), 16);
+    due(21, "rows()", x.rows(), 3);
   }
 
   private static void lawsByHand() {
@@ -456,8 +482,15 @@ public final class PromiseTest {
     due(42, "latest(31)", x.latest(31), -2);
     due(42, "latest(-1)", x.latest(-1), -2);
     due(43, "spare()", x.spare(), -1);
+    due(41, "bring(0, 0)", x.bring(0, 0), 0);
+    due(42, "latest(0)", x.latest(0), -1);
     due(41, "nothing was done", x.count(5), 0);
     row(41, x, 6, 3, 2, 2);
+    x = of("moor days 1 law 0 odds 0;heap of 5;"); // [4 1]; with a cart of two or more a third heap is left
+    due(41, "bring(0, 3)", x.bring(0, 3), 2);
+    due(42, "latest(3)", x.latest(3), 0);
+    x = of("moor days 14 law 3 odds 0;heap of 1;");
+    due(41, "all twenty", x.bring(0, 5), 20);
   }
 
   private static void seen() {
@@ -560,6 +593,7 @@ public final class PromiseTest {
     due(54, "wins(0, 3)", x.wins(0, 3), 1);
     due(55, "moves(0, 3)", x.moves(0, 3), 2); // three off four, or one off one
     due(56, "move(0, 3)", x.move(0, 3), 4003);
+    due(54, "wins(0, 700)", x.wins(0, 700), 1);
     due(55, "moves(0, 700)", x.moves(0, 700), 1);
     due(56, "move(0, 700)", x.move(0, 700), 4003);
     due(55, "moves(0, 1)", x.moves(0, 1), 2);
@@ -695,6 +729,7 @@ public final class PromiseTest {
     due(67, "rate(0, 1)", x.rate(0, 1), 4);
     due(67, "told(0)", x.told(0), 1);
     row(67, x, 1, 2);
+    due(67, "rate(0, 20)", x.rate(0, 20), 1);
     due(67, "rate(0, 21)", x.rate(0, 21), -2);
     due(67, "rate(0, 0)", x.rate(0, 0), -2);
     due(67, "rate(-1, 1)", x.rate(-1, 1), -2);
