@@ -44,6 +44,15 @@ final class EdgesOfAllRows extends Edges {
       due("ahead of [1] by law " + law, y.ahead(0), 1);
       due("from of [1] by law " + law, y.from(0, 0), 1);
     }
+    says("STEPS by LAW");
+    TurfHeaps other = heaps(1, 0);
+    for (int law : new int[] {0, 2, 1, 3, 0}) {
+      put(other, "moor days 1 law " + law + " odds 0;");
+      other.moor();
+      due("ringed(14) by law " + law, other.ringed(14), RINGED[law][13]);
+      due("gardens(14) by law " + law, other.gardens(14), GARDENS[law][13]);
+    }
+    says("(one that STEPS to itself is a ring, and come to by it)");
     TurfHeaps stays = heaps(1, 1);
     due("rings(2) by law 1, [2] and [1 1]", stays.rings(2), 2);
     due("gardens(2) by law 1", stays.gardens(2), 0);

@@ -160,6 +160,11 @@ final class EdgesOfRows extends Edges {
     onlyDays("all", 0, 6, a::all);
     onlyDays("all", 0, 16, full::all);
     due("all(0), no moor", none().all(0), -2);
+    TurfHeaps less = heaps(2, 1, 20, 3);
+    less.away(1);
+    due("all(0)", less.all(0), 23);
+    due("all(1), the heap of 20 went", less.all(1), 3);
+    due("all(2)", less.all(2), 3);
     due("all(16)", full.all(16), 132 + 21);
     due("all(15)", full.all(15), 132 + 21);
     due("all(14)", full.all(14), 132 + 15);
@@ -168,6 +173,8 @@ final class EdgesOfRows extends Edges {
     onlyFrom(1, 700, -2, "many(0, ..)", n -> a.many(0, n));
     due("many(0, 1)", a.many(0, 1), 1);
     due("many(0, 2)", a.many(0, 2), 0);
+    due("many(0, 4)", a.many(0, 4), 1);
+    due("many(1, 1) of [2 1] by law 2", heaps(1, 2, 2, 1).many(1, 1), 3);
     due("many(0, 700)", a.many(0, 700), 0);
     says("-2: there are none such");
     onlyDays("many(.., 1)", 0, 6, d -> a.many(d, 1));
@@ -177,6 +184,8 @@ final class EdgesOfRows extends Edges {
     onlyDays("sorts", 0, 6, a::sorts);
     due("sorts(0), no moor", none().sorts(0), -2);
     due("sorts(0), no heaps", of(BARE).sorts(0), 0);
+    due("sorts(1) of [2 1] by law 2", heaps(1, 2, 2, 1).sorts(1), 1);
+    due("sorts(1) of [3 2 1] by law 2", heaps(1, 2, 3, 2, 1).sorts(1), 2);
     on("13");
     says("(0 without)");
     due("spread(0)", of(BARE).spread(0), 0);
@@ -191,6 +200,7 @@ final class EdgesOfRows extends Edges {
     due("odd(0), no moor", none().odd(0), -2);
     due("odd(0), no heaps", of(BARE).odd(0), 0);
     due("odd(0) of 1 2 19 20", heaps(1, 0, 1, 2, 19, 20).odd(0), 2);
+    due("odd(0) of 3 3 4 5", heaps(1, 0, 3, 3, 4, 5).odd(0), 3);
   }
 
   private static void heapOfDay() {
@@ -245,11 +255,14 @@ final class EdgesOfRows extends Edges {
     due("most(), no moor", none().most(), -2);
     due("most() without heaps", of(BARE).most(), 0);
     due("most()", x.most(), 3);
+    due("most() on day 0", heaps(1, 0, 1, 1, 1).most(), 3);
+    due("most() on the last day", heaps(1, 0, 2).most(), 2);
     on("18");
     says("the first of several");
     due("peak() of days 2 and 5", x.peak(), 2);
     says("(without heaps at all 0)");
     due("peak()", of(BARE).peak(), 0);
+    due("peak() on day 1", heaps(2, 0, 1, 1, 1).peak(), 1);
     due("peak() with one heap on the last day", of("moor days 2 law 0 odds 0;cart of 1 at 2;").peak(), 2);
     says("-2 likewise");
     due("peak(), no moor", none().peak(), -2);

@@ -117,6 +117,7 @@ final class EdgesOfSeen extends Edges {
     due("greatest", with(A, 0, 700, 700).greatest(0, 0), -1);
     says("The greatest");
     due("greatest of all", with(A).greatest(0, 0), 20);
+    due("greatest of one", with(A, 0, 2, 4).greatest(0, 0), 4);
     due("greatest of 4 .. 15", with(FULL, 16, 18, 19).greatest(0, 7), 15);
   }
 
@@ -128,6 +129,7 @@ final class EdgesOfSeen extends Edges {
     due("ask, days 10 and 12 leave 10", with(FULL).ask(0, 7), 10);
     due("ask, days 2 and 5 leave 1", with(A, 1, 2, 2).ask(0, 0), 2);
     due("ask, the last day", with("moor days 1 law 2 odds 0;heap of 5;").ask(0, 0), 1);
+    due("ask, the last day of sixteen", with("moor days 16 law 2 odds 0;heap of 5;").ask(0, 0), 16);
     says("NONE: none");
     due("ask, by law 1 one heap stays", with("moor days 8 law 1 odds 0;heap of 5;").ask(0, 0), -1);
     due("ask, it is known", with(A, 1, 2, 3).ask(0, 0), -1);
@@ -140,6 +142,7 @@ final class EdgesOfSeen extends Edges {
     due("leaves, days 7 and 8 leave 6", with(three).leaves(0, 0), 6);
     due("leaves, days 10 and 12 leave 10", with(FULL).leaves(0, 7), 10);
     due("leaves, days 2 and 5 leave 1", with(A, 1, 2, 2).leaves(0, 0), 1);
+    due("leaves, the last day of sixteen leaves 4", with("moor days 16 law 2 odds 0;heap of 5;").leaves(0, 0), 4);
     due("leaves, day 9 leaves 6 of twelve", with(FULL, 16, 18, 19).leaves(0, 7), 6);
   }
 

@@ -15,6 +15,7 @@ final class EdgesOfState extends Edges {
     write();
     cutToWidth();
     paste();
+    nothingLeft();
   }
 
   private static TurfHeaps none() {
@@ -156,6 +157,67 @@ final class EdgesOfState extends Edges {
     x.away(0);
     x.anew();
     due("rate(0, 8) behind anew()", x.rate(0, 8), 9);
+  }
+
+  private static TurfHeaps with(String text, long... numbers) {
+    TurfHeaps x = of(text);
+    slot(x, 0, 3, numbers);
+    return x;
+  }
+
+  /** Of what was ahead of a change nothing is left: each answer is that of an object told so at once. */
+  private static void nothingLeft() {
+    String two = A + "cart of 3 at 1;";
+    String high = "moor days 6 law 0 odds 3;heap of 9;heap of 1;cart of 2 at 3;cart of 3 at 1;";
+    on("4");
+    says("(in place of another)");
+    TurfHeaps x = with(FULL, 0, 2, 4);
+    Answers.alike(x, () -> with(FULL, 0, 2, 4));
+    for (String text : new String[] {two, BARE, "moor days 6 law 2 odds 9;heap of 2;heap of 2;heap of 1;", "moor days 6 law 3 odds 1;heap of 6;", two}) {
+      put(x, text);
+      x.moor();
+      Answers.alike(x, () -> with(text, 0, 2, 4));
+    }
+    on("67");
+    says("A heap told is of n (1 .. 20) from now on: what it was");
+    due("rate(0, 9)", x.rate(0, 9), 4);
+    Answers.alike(x, () -> with(high, 0, 2, 4));
+    x.image(1);
+    on("61");
+    says("A CART more of n (1 .. 20)");
+    due("brings(7, 2)", x.brings(7, 2), 6);
+    Answers.alike(x, () -> acted(high));
+    on("69");
+    says("IMAGE k (0 .. 2) keeps the MOOR, and acts: 0");
+    x.image(2);
+    on("63");
+    says("The latest act is taken back: how many there are");
+    due("undo()", x.undo(), 0);
+    Answers.alike(x, () -> with(high, 0, 2, 4));
+    on("64");
+    says("All are: how many there were");
+    x.away(0);
+    x.away(5);
+    x.brings(11, 3);
+    due("anew()", x.anew(), 3);
+    Answers.alike(x, () -> with(high, 0, 2, 4));
+    on("70");
+    says("It is as IMAGE k has it: 0");
+    x.rate(1, 20);
+    x.away(0);
+    x.away(5);
+    due("back(2)", x.back(2), 0);
+    Answers.alike(x, () -> acted(high));
+    put(x, FULL);
+    x.moor();
+    due("back(1)", x.back(1), 0);
+    Answers.alike(x, () -> with(high, 0, 2, 4));
+  }
+
+  private static TurfHeaps acted(String text) {
+    TurfHeaps x = with(text, 0, 2, 4);
+    x.brings(7, 2);
+    return x;
   }
 
   private static void count() {

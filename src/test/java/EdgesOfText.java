@@ -93,7 +93,9 @@ final class EdgesOfText extends Edges {
       text(M + b, 1, 25);
     }
     fine(M + "heap of 10;heap of 9;"); // digits 0 and 9
-    text("moor az", 1, 5);
+    text("moora days 1 law 0 odds 0;", 1, 0);
+    text("moorz days 1 law 0 odds 0;", 1, 0);
+    for (char b : new char[] {'?', ',', '<', ':', ';' + 128}) text("moor days 1 law 0 odds 0" + b, 1, 24);
     due("tokens of one byte are told apart", of("moor days 9law0odds9;").count(2), 9);
   }
 
@@ -105,6 +107,8 @@ final class EdgesOfText extends Edges {
     text("moor days 000017", 2, 10);
     text("moor dayss", 1, 5);
     text("m", 1, 0);
+    lettersOfWords();
+    cutOff();
     text("moor", 1, 4);
     text("moor \n ", 1, 7);
     text(M + "heap of 1", 1, 34);
@@ -151,6 +155,30 @@ final class EdgesOfText extends Edges {
     fine(carts + "heap of 1;");
     fine(heaps + "cart of 1 at 1;".repeat(6));
     text(heaps + "cart of 1 at 1;".repeat(6) + "cart", 3, 195);
+  }
+
+  /** Each word with its first, or its last letter otherwise, is another one. */
+  private static void lettersOfWords() {
+    String line = M + "heap of 1;cart of 1 at 1;";
+    int[][] words = {{0, 4}, {5, 4}, {12, 3}, {18, 4}, {25, 4}, {30, 2}, {35, 4}, {40, 2}, {45, 2}};
+    for (int[] w : words) {
+      for (int at : new int[] {w[0], w[0] + w[1] - 1}) text(line.substring(0, at) + "x" + line.substring(at + 1), 1, w[0]);
+    }
+    fine(line);
+  }
+
+  /** What end() cut off is no part of a token, though it was fed. */
+  private static void cutOff() {
+    String[] texts = {"moor days 17", "moor dayss", M + "heap of 12;", M + "heap of; ", "moor  ", "moor;"};
+    int[] cuts = {11, 9, 34, 32, 4, 4};
+    for (int i = 0; i < texts.length; i++) {
+      TurfHeaps x = new TurfHeaps();
+      put(x, texts[i]);
+      x.end(cuts[i]);
+      due("moor() of '" + texts[i] + "', cut", x.moor(), -4);
+      due("fault(0) of '" + texts[i] + "', cut", x.fault(0), 1);
+      due("fault(1) of '" + texts[i] + "', cut", x.fault(1), cuts[i]);
+    }
   }
 
   private static void slotsOfTerms() {
@@ -256,6 +284,9 @@ final class EdgesOfText extends Edges {
     says("nothing done");
     due("acts", x.count(5), 0);
     due("undo()", x.undo(), -5);
+    put(x, "moor days 16 law 3 odds 9;heap of 7;cart of 1 at 1;");
+    due("moor()", x.moor(), 3);
+    x.away(3);
     says("how many LINES (0: there is none then)");
     due("moor() of no bytes", x.moor(), 0);
     due("heaps(0)", x.heaps(0), -2);
