@@ -116,6 +116,11 @@ final class EdgesOfRows extends Edges {
     due("tail(0)", y.tail(0), LONG_TAIL);
     due("length(0)", y.length(0), LONG_LENGTH);
     due("ring(0)", y.ring(0), LONG_RING);
+    for (int turfs : new int[] {1, 2, 1999, 2000}) {
+      due("tail of a heap of " + turfs + " by law 2", FarRounds.of(turfs)[0], turfs - 1);
+      due("length of a heap of " + turfs + " by law 2", FarRounds.of(turfs)[1], 1);
+    }
+    for (int turfs : new int[] {2001, 2002, 4000, 5000, 100000}) due("tail of a heap of " + turfs + " by law 2", FarRounds.of(turfs)[0], -1);
   }
 
   private static void shapes() {
@@ -374,6 +379,8 @@ final class EdgesOfRows extends Edges {
     on("28");
     says("NONE: more than 2,000 STEPS");
     due("tail(0) of the furthest found", longRound().tail(0), LONG_TAIL);
+    due("tail of 2,000 steps in all", FarRounds.of(2000)[0], 1999);
+    due("tail of 2,001 steps in all", FarRounds.of(2001)[0], -1);
     says("-2: there is none such, no MOOR");
     onlyDays("tail", 0, 6, x::tail);
     onlyDays("tail", 0, 16, of(FULL)::tail);
@@ -385,12 +392,16 @@ final class EdgesOfRows extends Edges {
     due("length(0), no moor", none().length(0), -2);
     due("length(0) without heaps", of(BARE).length(0), 1);
     due("length(0) of the furthest found", longRound().length(0), LONG_LENGTH);
+    due("length of 2,000 steps in all", FarRounds.of(2000)[1], 1);
+    due("length of 2,001 steps in all", FarRounds.of(2001)[1], -1);
     on("30");
     says("NONE, -2 likewise");
     onlyDays("ring", 0, 6, x::ring);
     due("ring(0), no moor", none().ring(0), -2);
     due("ring(0) without heaps", of(BARE).ring(0), 0);
     due("ring(0) of the furthest found", longRound().ring(0), LONG_RING);
+    due("ring of 2,000 steps in all", FarRounds.of(2000)[2], 2000);
+    due("ring of 2,001 steps in all", FarRounds.of(2001)[2], -1);
     due("ring(0), most heaps ahead of the ring", heaps(1, 0, 1, 1, 1, 1, 1, 1, 1, 1).ring(0), 4);
   }
 
@@ -426,6 +437,7 @@ final class EdgesOfRows extends Edges {
     due("soon(0) of [2 2]", x.soon(0), -1);
     due("soon(0) without heaps", of(BARE).soon(0), -1);
     due("soon(0) of [2]", heaps(1, 2, 2).soon(0), -1);
+    due("soon of 2,001 steps in all", FarRounds.of(2001)[3], -1);
     due("soon(1), it was on day 0", heaps(1, 2, 2, 1).soon(1), -1);
     says("-2: there is none such, no MOOR");
     onlyDays("soon", 0, 1, x::soon);

@@ -138,6 +138,10 @@ final class EdgesOfState extends Edges {
     due("rate(0, 1)", x.rate(0, 1), 20);
     due("rate(0, 1)", x.rate(0, 1), 1);
     row(x, 0, 1, 1);
+    due("length(0) of [1 1]", x.length(0), 2);
+    due("rate(0, 2)", x.rate(0, 2), 1);
+    due("length(0) of [2 1], nothing else was asked", x.length(0), 1);
+    due("rate(0, 1)", x.rate(0, 1), 2);
     says("-2: there are none such");
     onlyFrom(1, 20, -2, "rate(0, ..)", n -> of(A).rate(0, n));
     onlyFrom(0, 1, -2, "rate(.., 1)", h -> of(A).rate(h, 1));
