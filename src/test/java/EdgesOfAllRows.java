@@ -146,6 +146,13 @@ final class EdgesOfAllRows extends Edges {
     due("from(0, 2147483647)", x.from(0, Integer.MAX_VALUE), -1);
     slot(x, 1, 0, 1, 1, 1, 1);
     due("from(1, 0), there is none", x.from(1, 0), -1);
+    for (int n = 3; n <= 13; n++) { // heaps of one, behind each larger number of turfs that was asked about
+      slot(x, 1, 0, java.util.Arrays.copyOf(FOURTEEN, n));
+      for (int other = n + 1; other <= 14; other++) {
+        x.rowsOf(other);
+        due("from(1, 0) of " + n + " heaps of one", x.from(1, 0), -1);
+      }
+    }
     slot(x, 1, 0, 14);
     due("from(1, 13) of fourteen heaps of one", x.from(1, 13), 1);
     due("from(1, 14)", x.from(1, 14), -1);

@@ -3,7 +3,7 @@ import java.lang.reflect.Field;
 import java.lang.reflect.Method;
 
 /**
- * A moor has 700 turfs at most, and no row of so many was found that goes further than some 1,160 steps. So
+ * A moor has 680 turfs at most, and no row of so many was found that goes further than some 1,160 steps. So
  * the bound of 2,000 is looked at inside the class: by law 2 a heap of n goes n - 1 steps to heaps of one.
  */
 final class FarRounds {
