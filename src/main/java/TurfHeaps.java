@@ -1314,13 +1314,11 @@ public final class TurfHeaps {
 
         /** Takes turfs off each heap: how many. No heap overtakes another by it, so the order stays. */
         private int lower(int law) {
-            int offHigh = law == 3 ? 2 : 1;
-            int offOne = law == 2 ? 0 : 1;
             int taken = 0;
             int left = 0;
             int kept = 0;
             for (int r = 0; r < runs; r++) {
-                int off = high[r] > 1 ? offHigh : offOne;
+                int off = offEach(law, high[r]);
                 int height = high[r] - off;
                 taken += off * times[r];
                 if (height > 0) {
@@ -1451,8 +1449,8 @@ public final class TurfHeaps {
             int longer = Math.max(heaps, that.heaps);
             for (int i = 0; i < longer; i++) {
                 lead += Math.max(0, heapAt(i)) - Math.max(0, that.heapAt(i));
-                ahead |= lead > 0;
-                behind |= lead < 0;
+                ahead = ahead || lead > 0;
+                behind = behind || lead < 0;
             }
             return (ahead ? 1 : 0) + (behind ? 2 : 0);
         }
@@ -1473,8 +1471,11 @@ public final class TurfHeaps {
 
         /** How many turfs to take off a heap of run r to win, 0: it can't be won there. At most one does. */
         private int winningTake(int r, int modulus) {
+            if (modulus < 1 || r < 0 || r >= runs) {
+                return 0;
+            }
             int sum = nimSum(modulus);
-            if (sum == 0 || r < 0 || r >= runs) {
+            if (sum == 0) {
                 return 0;
             }
             int rest = high[r] % modulus;

@@ -20,20 +20,9 @@ public final class PromiseTest {
     }
   }
 
-  /** The text behind what the tape has; the last feed is filled with blanks and cut off again. */
-  private static void put(TurfHeaps x, String text) {
-    int had = x.count(7);
-    for (int p = 0; p < text.length(); p += 20) {
-      int[] v = new int[5];
-      for (int j = 0; j < 20; j++) v[j / 4] = v[j / 4] << 8 | (p + j < text.length() ? text.charAt(p + j) : ' ');
-      x.feed(v[0], v[1], v[2], v[3], v[4]);
-    }
-    x.end(had + text.length());
-  }
-
   private static TurfHeaps of(String text) {
     TurfHeaps x = new TurfHeaps();
-    put(x, text);
+    Edges.put(x, text);
     int lines = x.moor();
     if (lines < 1) due(4, "moor() of " + text, lines, 1);
     return x;
@@ -95,21 +84,21 @@ public final class PromiseTest {
     due(4, "the tape behind moor()", x.count(7), 0);
     due(4, "lines", x.count(6), 4);
     due(4, "away", x.away(0), 2);
-    put(x, "moor days 1 law 0 odds 0;heap");
+    Edges.put(x, "moor days 1 law 0 odds 0;heap");
     due(4, "moor() with a fault", x.moor(), -4);
     due(4, "the tape stays", x.count(7), 29);
     due(4, "the moor stays", x.count(6), 4);
     due(4, "the acts stay", x.count(5), 1);
-    put(x, " of 7;");
+    Edges.put(x, " of 7;");
     due(4, "moor() in place of another", x.moor(), 2);
     due(4, "nothing done", x.count(5), 0);
     row(4, x, 0, 7);
-    put(x, " \n ");
+    Edges.put(x, " \n ");
     due(4, "moor() of blanks", x.moor(), 0);
     due(4, "no moor then", x.heaps(0), -2);
     due(4, "no heaps told then", x.told(0), -2);
     due(4, "days", x.count(0), 0);
-    put(x, "moor\ndays 016 law 3odds10;heap of 20;cart of 20at 15;");
+    Edges.put(x, "moor\ndays 016 law 3odds10;heap of 20;cart of 20at 15;");
     due(4, "tokens side by side", x.moor(), 3);
     due(4, "days", x.count(0), 16);
     due(4, "law", x.count(1), 3);
@@ -119,7 +108,7 @@ public final class PromiseTest {
 
   private static void fault(String text, int what, int place) {
     TurfHeaps x = new TurfHeaps();
-    put(x, text);
+    Edges.put(x, text);
     due(5, "moor() of " + text, x.moor(), what == 0 ? x.count(6) : -4);
     due(5, "fault(0) of " + text, x.fault(0), what);
     due(5, "fault(1) of " + text, x.fault(1), place);
@@ -180,11 +169,11 @@ public final class PromiseTest {
     String carts = m + "cart of 1 at 1;".repeat(6);
     fault(carts, 0, -1);
     fault(carts + " cart", 3, 116);
-    put(x, "?");
+    Edges.put(x, "?");
     due(5, "moor()", x.moor(), -4);
     x.end(0);
     due(5, "fault(0) is the latest moor()'s", x.fault(0), 1);
-    put(x, m);
+    Edges.put(x, m);
     x.moor();
     due(5, "fault(0) without", x.fault(0), 0);
     due(5, "fault(1) without", x.fault(1), -1);
@@ -784,7 +773,7 @@ public final class PromiseTest {
     due(70, "back(1)", x.back(1), -6);
     due(69, "image(1)", x.image(1), 0);
     x.end(0);
-    put(x, B);
+    Edges.put(x, B);
     due(4, "moor()", x.moor(), 4);
     due(69, "image(2)", x.image(2), 0);
     x.rate(0, 9);
