@@ -1,4 +1,3 @@
-import com.sun.source.tree.ArrayAccessTree;
 import com.sun.source.tree.BinaryTree;
 import com.sun.source.tree.ClassTree;
 import com.sun.source.tree.CompilationUnitTree;
@@ -223,12 +222,6 @@ public final class LanguageTest {
       if (e instanceof VariableElement v && v.getConstantValue() instanceof Number n && n.longValue() != 0) return;
       String body = String.valueOf(around(MethodTree.class));
       if (!(by instanceof IdentifierTree) || !body.matches("(?s).*\\b" + by + " (!= 0|< 1|> 0)\\b.*")) bar(7, by + " is not looked at", by);
-    }
-
-    @Override
-    public Void visitArrayAccess(ArrayAccessTree tree, Void nothing) {
-      if (tree.getIndex() instanceof LiteralTree l && l.getValue() instanceof Integer i && i < 0) bar(7, "an index below 0", tree);
-      return super.visitArrayAccess(tree, nothing);
     }
 
     @Override
